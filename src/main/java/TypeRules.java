@@ -25,6 +25,7 @@ public final class TypeRules {
 
     private static final int LOWEST_INT = -32768;
     private static final int HIGHEST_INT = 32767;
+    private static final int HIGHEST_NUMBER = 2147483647;
     private static final int MOST_INPUTS = 8;
     private static final int STANDARD_MEANING = 100;
 
@@ -514,6 +515,10 @@ public final class TypeRules {
             return kindHere == kind;
         }
 
+        boolean isNext(int kind) {
+            return here + 1 < count && kinds[here + 1] == kind;
+        }
+
         void step() {
             if (kindHere != Word.STOPPED && here + 1 < count) {
                 here++;
@@ -655,7 +660,7 @@ public final class TypeRules {
         }
 
         private boolean addNumber(int begin) {
-            if (isNamePart(byteAt(next)) || amount > Integer.MAX_VALUE) {
+            if (isNamePart(byteAt(next)) || amount > HIGHEST_NUMBER) {
                 return addBad(BAD_NUMBER, begin);
             }
             add(Word.NUMBER, begin, (int) amount);
@@ -801,108 +806,108 @@ public final class TypeRules {
 
         /** A new last node; what is added until it is closed stands below it. */
         int add(int kind, int place, int value) {
-            return wrap(count, kind, place, value);
-        }
-
-        /** A new node with all nodes from this one on below it. */
-        int wrap(int from, int kind, int place, int value) {
-            if (from < 0 || from > count || count >= MOST_NODES) {
+            if (count >= MOST_NODES) {
                 return NONE;
             }
-            int moved = count - from;
-            if (moved > 0) {
-                System.arraycopy(kinds, from, kinds, from + 1, moved);
-                System.arraycopy(places, from, places, from + 1, moved);
-                System.arraycopy(values, from, values, from + 1, moved);
-                System.arraycopy(sizes, from, sizes, from + 1, moved);
-            }
-            kinds[from] = kind;
-            places[from] = place;
-            values[from] = value;
-            sizes[from] = moved + 1;
+            kinds[count] = kind;
+            places[count] = place;
+            values[count] = value;
+            sizes[count] = 1;
             parents[count] = NONE;
             types[count] = NONE;
             cells[count] = NONE;
             meanings[count] = NONE;
             count++;
-            return from;
+            return count - 1;
+        }
+
+        /** A new node with all nodes from this one on below it. */
+        void wrap(int from, int kind, int place, int value) {
+            int moved = count - from;
+            if (add(kind, place, value) == NONE || from < 0 || moved <= 0) {
+                return;
+            }
+            System.arraycopy(kinds, from, kinds, from + 1, moved);
+            System.arraycopy(places, from, places, from + 1, moved);
+            System.arraycopy(values, from, values, from + 1, moved);
+            System.arraycopy(sizes, from, sizes, from + 1, moved);
+            kinds[from] = kind;
+            places[from] = place;
+            values[from] = value;
+            sizes[from] = moved + 1;
         }
 
         void close(int node) {
-            if (has(node)) {
+            if (node >= 0 && node < count) {
                 sizes[node] = count - node;
             }
         }
 
-        private boolean has(int node) {
-            return node >= 0 && node < count;
-        }
-
         int kindAt(int node) {
-            return has(node) ? kinds[node] : NONE;
+            return node >= 0 && node < count ? kinds[node] : NONE;
         }
 
         int placeAt(int node) {
-            return has(node) ? places[node] : NONE;
+            return node >= 0 && node < count ? places[node] : NONE;
         }
 
         int valueAt(int node) {
-            return has(node) ? values[node] : NONE;
+            return node >= 0 && node < count ? values[node] : NONE;
         }
 
         int parentOf(int node) {
-            return has(node) ? parents[node] : NONE;
+            return node >= 0 && node < count ? parents[node] : NONE;
         }
 
         int typeAt(int node) {
-            return has(node) ? types[node] : NONE;
+            return node >= 0 && node < count ? types[node] : NONE;
         }
 
         int cellAt(int node) {
-            return has(node) ? cells[node] : NONE;
+            return node >= 0 && node < count ? cells[node] : NONE;
         }
 
         int meaningAt(int node) {
-            return has(node) ? meanings[node] : NONE;
+            return node >= 0 && node < count ? meanings[node] : NONE;
         }
 
         /** The first node behind this one and all below it; of no node, behind all. */
         int behind(int node) {
-            return has(node) ? node + sizes[node] : count;
+            return node >= 0 && node < count ? node + sizes[node] : count;
         }
 
         void setPlace(int node, int place) {
-            if (has(node)) {
+            if (node >= 0 && node < count) {
                 places[node] = place;
             }
         }
 
         void setValue(int node, int value) {
-            if (has(node)) {
+            if (node >= 0 && node < count) {
                 values[node] = value;
             }
         }
 
         void setParent(int node, int parent) {
-            if (has(node)) {
+            if (node >= 0 && node < count) {
                 parents[node] = parent;
             }
         }
 
         void setType(int node, int type) {
-            if (has(node)) {
+            if (node >= 0 && node < count) {
                 types[node] = type;
             }
         }
 
         void setCell(int node, int cell) {
-            if (has(node)) {
+            if (node >= 0 && node < count) {
                 cells[node] = cell;
             }
         }
 
         void setMeaning(int node, int meaning) {
-            if (has(node)) {
+            if (node >= 0 && node < count) {
                 meanings[node] = meaning;
             }
         }
@@ -934,6 +939,8 @@ public final class TypeRules {
      * matches, so every method and loop ends, and the token itself stays where it can be told.
      */
     private static final class Parser {
+        // As closeness: takes every sign, and what it opened between operands ends with it.
+        private static final int OUTERMOST = -1;
         // How close each sign or word between operands binds.
         private static final int[] BINDING = {0, 1, 2, 3, 3, 4, 4, 4, 4, 5, 5, 6, 6, 6};
 
@@ -1123,7 +1130,11 @@ public final class TypeRules {
                 case Word.SEMICOLON:
                     break;
                 case Word.NAME:
-                    readNameStatement();
+                    if (tokens.isNext(Word.LEFT_ROUND)) {
+                        readInvocation();
+                    } else {
+                        readAssignment();
+                    }
                     break;
                 case Word.IF:
                     readIf();
@@ -1149,44 +1160,29 @@ public final class TypeRules {
             return true;
         }
 
-        private void readNameStatement() {
-            int place = tokens.placeHere();
-            int name = tokens.valueHere();
-            tokens.step();
-            if (tokens.isHere(Word.LEFT_ROUND)) {
-                readInvocation(place, name);
+        private void readAssignment() {
+            int node = tree.add(Node.ASSIGNMENT, 0, 0);
+            if (tokens.isNext(Word.LEFT_SQUARE)) {
+                readElement(OUTERMOST);
             } else {
-                readAssignment(place, name);
-            }
-        }
-
-        private void readAssignment(int place, int name) {
-            int node = tree.add(Node.ASSIGNMENT, place, 0);
-            if (tokens.isHere(Word.LEFT_SQUARE)) {
-                int element = tree.add(Node.ELEMENT, place, name);
-                openHere();
-                readOutermost();
-                open--;
-                tokens.expect(Word.RIGHT_SQUARE);
-                tree.close(element);
-            } else {
-                tree.add(Node.NAME, place, name);
+                readName();
             }
             tree.setPlace(node, tokens.placeHere());
             tokens.expect(Word.BECOMES);
-            readOutermost();
+            readExpression(OUTERMOST);
             tree.close(node);
         }
 
-        private void readInvocation(int place, int name) {
-            int node = tree.add(Node.INVOCATION, place, name);
+        private void readInvocation() {
+            int node = tree.add(Node.INVOCATION, tokens.placeHere(), tokens.valueHere());
+            tokens.step();
             openHere();
             boolean more = !tokens.isHere(Word.RIGHT_ROUND);
             for (int left = MOST_BYTES; more && left > 0; left--) {
                 int parameter = tree.add(Node.PARAMETER, tokens.placeHere(), tokens.valueHere());
                 tokens.expect(Word.NAME);
                 tokens.expect(Word.BECOMES);
-                readOutermost();
+                readExpression(OUTERMOST);
                 tree.close(parameter);
                 more = tokens.isHere(Word.COMMA);
                 if (more) {
@@ -1201,12 +1197,12 @@ public final class TypeRules {
         private void readIf() {
             int node = tree.add(Node.IF, tokens.placeHere(), 0);
             openHere();
-            readOutermost();
+            readExpression(OUTERMOST);
             tokens.expect(Word.THEN);
             readBody();
             for (int left = MOST_BYTES; left > 0 && tokens.isHere(Word.ELSIF); left--) {
                 tokens.step();
-                readOutermost();
+                readExpression(OUTERMOST);
                 tokens.expect(Word.THEN);
                 readBody();
             }
@@ -1222,7 +1218,7 @@ public final class TypeRules {
         private void readCase() {
             int node = tree.add(Node.CASE, tokens.placeHere(), 0);
             openHere();
-            readOutermost();
+            readExpression(OUTERMOST);
             tokens.expect(Word.OF);
             for (int left = MOST_BYTES; left > 0 && isConstantHere(); left--) {
                 int choice = tree.add(Node.CHOICE, tokens.placeHere(), 0);
@@ -1277,26 +1273,21 @@ public final class TypeRules {
             tree.close(node);
         }
 
-        /** An expression in no other one: what stands between its operands is open until it ends. */
-        private void readOutermost() {
-            int before = open;
-            readExpression(0);
-            open = before;
-        }
-
         /** Operands with only such signs and words between them as bind at least so close. */
         private void readExpression(int closeness) {
+            int before = open;
             int from = tree.size();
             readOperand();
-            for (int left = MOST_BYTES; left > 0; left--) {
-                int sign = signHere();
-                if (sign == NONE || BINDING[sign] < closeness) {
-                    return;
-                }
+            int sign = signHere();
+            for (int left = MOST_BYTES; left > 0 && sign != NONE && BINDING[sign] >= closeness; left--) {
                 tree.wrap(from, Node.TWO, tokens.placeHere(), sign);
                 openHere();
                 readExpression(BINDING[sign] + 1);
                 tree.close(from);
+                sign = signHere();
+            }
+            if (closeness == OUTERMOST) {
+                open = before;
             }
         }
 
@@ -1359,7 +1350,13 @@ public final class TypeRules {
                     tokens.expect(Word.RIGHT_ROUND);
                     break;
                 case Word.NAME:
-                    readNameOperand();
+                    if (tokens.isNext(Word.LEFT_SQUARE)) {
+                        readElement(0);
+                    } else if (tokens.isNext(Word.LEFT_ROUND)) {
+                        readCall();
+                    } else {
+                        readNameOrOutput();
+                    }
                     break;
                 default:
                     tokens.stop();
@@ -1367,26 +1364,20 @@ public final class TypeRules {
             }
         }
 
-        private void readNameOperand() {
-            int place = tokens.placeHere();
-            int name = tokens.valueHere();
+        /** A name with an index, which is an expression of this closeness. */
+        private void readElement(int closeness) {
+            int node = tree.add(Node.ELEMENT, tokens.placeHere(), tokens.valueHere());
             tokens.step();
-            if (tokens.isHere(Word.LEFT_SQUARE)) {
-                int element = tree.add(Node.ELEMENT, place, name);
-                openHere();
-                readExpression(0);
-                open--;
-                tokens.expect(Word.RIGHT_SQUARE);
-                tree.close(element);
-            } else if (tokens.isHere(Word.LEFT_ROUND)) {
-                readCall(place, name);
-            } else {
-                readNameOrOutput(place, name);
-            }
+            openHere();
+            readExpression(closeness);
+            open--;
+            tokens.expect(Word.RIGHT_SQUARE);
+            tree.close(node);
         }
 
-        private void readCall(int place, int name) {
-            int node = tree.add(Node.CALL, place, name);
+        private void readCall() {
+            int node = tree.add(Node.CALL, tokens.placeHere(), tokens.valueHere());
+            tokens.step();
             openHere();
             boolean more = !tokens.isHere(Word.RIGHT_ROUND);
             for (int left = MOST_BYTES; more && left > 0; left--) {
@@ -1401,12 +1392,15 @@ public final class TypeRules {
             tree.close(node);
         }
 
-        /** A name that was taken already, and what is behind a dot. */
-        private void readNameOrOutput(int place, int name) {
+        private void readNameOrOutput() {
+            int place = tokens.placeHere();
+            int name = tokens.valueHere();
+            tokens.expect(Word.NAME);
             if (tokens.isHere(Word.DOT)) {
                 int output = tree.add(Node.OUTPUT, place, name);
                 tokens.step();
-                readName();
+                tree.add(Node.NAME, tokens.placeHere(), tokens.valueHere());
+                tokens.expect(Word.NAME);
                 tree.close(output);
             } else {
                 tree.add(Node.NAME, place, name);
@@ -1447,35 +1441,33 @@ public final class TypeRules {
 
         private void readRow() {
             int row = tree.add(Node.ROW, tokens.placeHere(), 0);
-            readCell();
-            for (int left = MOST_BYTES; left > 0 && (tokens.isHere(Word.BAR) || isCellHere()); left--) {
+            boolean more = true;
+            for (int left = MOST_BYTES; more && left > 0; left--) {
+                switch (tokens.kindHere()) {
+                    case Word.MINUS:
+                        tree.add(Node.WIRE, tokens.placeHere(), 0);
+                        tokens.step();
+                        break;
+                    case Word.STAR:
+                        tree.add(Node.GAP, tokens.placeHere(), 0);
+                        tokens.step();
+                        break;
+                    case Word.LEFT_ROUND:
+                        readCoil();
+                        break;
+                    default:
+                        readContact();
+                        break;
+                }
+                more = isCellHere();
                 if (tokens.isHere(Word.BAR)) {
                     tree.add(Node.LINK, tokens.placeHere(), 0);
                     tokens.step();
+                    more = true;
                 }
-                readCell();
             }
             tokens.expect(Word.SEMICOLON);
             tree.close(row);
-        }
-
-        private void readCell() {
-            switch (tokens.kindHere()) {
-                case Word.MINUS:
-                    tree.add(Node.WIRE, tokens.placeHere(), 0);
-                    tokens.step();
-                    break;
-                case Word.STAR:
-                    tree.add(Node.GAP, tokens.placeHere(), 0);
-                    tokens.step();
-                    break;
-                case Word.LEFT_ROUND:
-                    readCoil();
-                    break;
-                default:
-                    readContact();
-                    break;
-            }
         }
 
         private void readContact() {
@@ -1485,10 +1477,7 @@ public final class TypeRules {
             if (mark != 0) {
                 tokens.step();
             }
-            int place = tokens.placeHere();
-            int name = tokens.valueHere();
-            tokens.expect(Word.NAME);
-            readNameOrOutput(place, name);
+            readNameOrOutput();
             tree.close(node);
         }
 
@@ -1613,42 +1602,38 @@ public final class TypeRules {
 
         /** The block of this kind and name that ended before the current one, or NONE. */
         int namedBefore(int name, int kind) {
-            int block = named(name);
-            return block != current() && kindOf(block) == kind ? block : NONE;
-        }
-
-        private boolean has(int block) {
-            return block >= 0 && block < count;
+            int block = name >= 0 && name < byName.length ? byName[name] : NONE;
+            return block >= 0 && block < count - 1 && kinds[block] == kind ? block : NONE;
         }
 
         int kindOf(int block) {
-            return has(block) ? kinds[block] : NONE;
+            return block >= 0 && block < count ? kinds[block] : NONE;
         }
 
         int cellsOf(int block) {
-            return has(block) ? frames[block] : NONE;
+            return block >= 0 && block < count ? frames[block] : NONE;
         }
 
         int placeOf(int block) {
-            return has(block) ? places[block] : NONE;
+            return block >= 0 && block < count ? places[block] : NONE;
         }
 
         int resultOf(int block) {
-            return has(block) ? results[block] : NONE;
+            return block >= 0 && block < count ? results[block] : NONE;
         }
 
         int inputsOf(int block) {
-            return has(block) ? inputs[block] : NONE;
+            return block >= 0 && block < count ? inputs[block] : NONE;
         }
 
         int inputTypeOf(int block, int input) {
-            return has(block) && input >= 0 && input < MOST_INPUTS ? inputTypes[block * MOST_INPUTS + input] : NONE;
+            return block >= 0 && block < count && input >= 0 && input < MOST_INPUTS ? inputTypes[block * MOST_INPUTS + input] : NONE;
         }
 
         /** Gives the current block so many cells more, and answers the first of them. */
         int takeCells(int cells) {
-            int block = current();
-            if (!has(block)) {
+            int block = count - 1;
+            if (block < 0) {
                 return NONE;
             }
             int first = frames[block];
@@ -1657,8 +1642,8 @@ public final class TypeRules {
         }
 
         void addInput(int type) {
-            int block = current();
-            if (!has(block)) {
+            int block = count - 1;
+            if (block < 0) {
                 return;
             }
             // Only functions are called with inputs in order, and none with more than these is right.
@@ -1763,7 +1748,7 @@ public final class TypeRules {
         }
 
         void forbidWriting(int variable) {
-            if (has(variable)) {
+            if (variable >= 0 && variable < count) {
                 readOnly[variable] = true;
             }
         }
@@ -1783,27 +1768,23 @@ public final class TypeRules {
         /** The variable of this block with this name in such a section, or NONE. */
         int findIn(int owner, int name, int section) {
             int variable = find(owner, name);
-            return has(variable) && sections[variable] == section ? variable : NONE;
-        }
-
-        private boolean has(int variable) {
-            return variable >= 0 && variable < count;
+            return variable >= 0 && variable < count && sections[variable] == section ? variable : NONE;
         }
 
         int shapeOf(int variable) {
-            return has(variable) ? shapes[variable] : NONE;
+            return variable >= 0 && variable < count ? shapes[variable] : NONE;
         }
 
         int typeOf(int variable) {
-            return has(variable) ? types[variable] : NONE;
+            return variable >= 0 && variable < count ? types[variable] : NONE;
         }
 
         int cellOf(int variable) {
-            return has(variable) ? cells[variable] : NONE;
+            return variable >= 0 && variable < count ? cells[variable] : NONE;
         }
 
         boolean isReadOnly(int variable) {
-            return has(variable) && readOnly[variable];
+            return variable >= 0 && variable < count && readOnly[variable];
         }
     }
 
@@ -2271,7 +2252,7 @@ public final class TypeRules {
         }
 
         private static int wider(int a, int b) {
-            return isNumber(a) && isNumber(b) ? Math.max(a, b) : NONE;
+            return a >= INT && b >= INT ? Math.max(a, b) : NONE;
         }
 
         /** BOOL of two BOOLs, the wider of two numbers, NONE of others. */
