@@ -7,6 +7,7 @@ public final class ReadingTest {
         blanksAndSigns();
         names();
         numbers();
+        meanings();
         places();
         blocksCannotCome();
         statementsCannotCome();
@@ -98,6 +99,18 @@ public final class ReadingTest {
         Check.refused(6, "PROGRAM p VAR y : DINT := ^+1; END_VAR END_PROGRAM");
         fine("CASE x OF 1..2:END_CASE;");
         body(4, "x := 1 + ^1x;");
+    }
+
+    /** A number means what another one does if each may be the first of a range that ends with the other. */
+    private static void meanings() {
+        String[] pairs = {"00017 17", "16#fF 255", "16#7FFFFFFF 2147483647", "016#10 16", "2#1011 11", "02#0001 1",
+            "T#7ms 7", "T#7S 7000", "t#7m 420000", "T#7H 25200000", "T#596h 2145600000", "T#0h 0", "T#01ms 1",
+            "16#09 9", "16#AbCdEf 11259375", "-16#10 -16", "-T#1s -1000"};
+        for (String pair : pairs) {
+            String one = pair.substring(0, pair.indexOf(' '));
+            String other = pair.substring(pair.indexOf(' ') + 1);
+            fine("CASE x OF " + one + " .. " + other + ", " + other + " .. " + one + " : END_CASE;");
+        }
     }
 
     private static void places() {

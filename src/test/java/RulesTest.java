@@ -19,6 +19,7 @@ public final class RulesTest {
         variableNames();
         calls();
         operators();
+        pairsOfOperators();
         assignments();
         parameters();
         conditionsAndRanges();
@@ -300,6 +301,48 @@ public final class RulesTest {
         body(27, "b := x ^= x < x;");
         body(27, "b := x ^* (x < x);");
         fine("b := x - 1 - 1 > 2; b := (x = x) = (x = x);");
+    }
+
+    private static final String[] SIGNS = {"OR", "XOR", "AND", "&", "=", "<>", "<", ">", "<=", ">=", "+", "-", "*", "/",
+        "MOD"};
+    private static final int[] CLOSENESS = {0, 1, 2, 2, 3, 3, 4, 4, 4, 4, 5, 5, 6, 6, 6};
+
+    /** The type that the sign gives of BOOL 0 and DINT 2, or NONE. */
+    private static int typeOf(int sign, int left, int right) {
+        boolean alike = left == right && left != Check.NONE;
+        boolean fits = sign <= 5 ? alike : alike && left == 2;
+        return !fits ? Check.NONE : sign >= 4 && sign <= 9 ? 0 : left;
+    }
+
+    /** Every two signs with every types of their three operands: which binds closer, and what it gives. */
+    private static void pairsOfOperators() {
+        for (int first = 0; first < SIGNS.length; first++) {
+            for (int second = 0; second < SIGNS.length; second++) {
+                for (int types = 0; types < 8; types++) {
+                    pair(first, second, types % 2 * 2, types / 2 % 2 * 2, types / 4 * 2);
+                }
+            }
+        }
+    }
+
+    private static void pair(int first, int second, int a, int b, int c) {
+        boolean secondCloser = CLOSENESS[second] > CLOSENESS[first];
+        int inner = secondCloser ? typeOf(second, b, c) : typeOf(first, a, b);
+        int outer = secondCloser ? typeOf(first, a, inner) : typeOf(second, inner, c);
+        String[] names = {"k", "", "e"};
+        String head = "PROGRAM p VAR k : BOOL; e : DINT; END_VAR " + (outer == 0 ? "k" : "e") + " := " + names[a] + " ";
+        String middle = SIGNS[first] + " " + names[b] + " ";
+        String last = SIGNS[second] + " " + names[c] + "; END_PROGRAM";
+        if (outer == Check.NONE) {
+            boolean atSecond = secondCloser == (inner == Check.NONE);
+            Check.refused(27, head + (atSecond ? middle + "^" : "^" + middle) + last);
+            return;
+        }
+        TypeRules rules = Check.right(head + middle + last);
+        int two = Check.node(rules, 35, 0);
+        Check.is("type of " + middle + last, rules.type(two), outer);
+        Check.is("shape of " + middle + last, rules.kind(two + 1), secondCloser ? 6 : 35);
+        Check.is("inner type of " + middle + last, rules.type(two + (secondCloser ? 2 : 1)), inner);
     }
 
     private static void assignments() {
