@@ -51,6 +51,7 @@ public final class ReadingTest {
         }
         Check.refusedAt(1, 0, "^");
         body(1, "x ^# 1;");
+        fine("x := (x OR 1); x := q[x OR 1]; x := MAX(x OR 1, 1 OR x); q[1 OR 2] := x OR 1; t(IN := b OR b);");
         fine("x:=1;b:=x<=1;b:=x>=1;b:=x<>1;b:=x<1;b:=x>1;b:=x=1;b:=b&b;");
         body(6, "x ^: = 1;");
         body(6, "b := x < ^> 1;");
@@ -74,6 +75,12 @@ public final class ReadingTest {
             Check.right("PROGRAM " + word + "_ END_PROGRAM");
         }
         Check.right("PROGRAM t VAR ms, s, T1 : INT; END_VAR END_PROGRAM");
+        String great = "ABCDEFGHIJKLMNOPQRSTUVWXYZ";
+        for (int i = 0; i < 26; i++) {
+            String letter = great.substring(i, i + 1);
+            Check.right("PROGRAM p9 VAR " + letter + "0 : INT; END_VAR " + letter.toLowerCase() + "0 := 1; END_PROGRAM");
+            Check.right("PROGRAM p9 VAR _" + letter.toLowerCase() + ": INT; END_VAR _" + letter + " := 1; END_PROGRAM");
+        }
     }
 
     private static void numbers() {
@@ -282,6 +289,9 @@ public final class ReadingTest {
         nested("CASE x OF 1 : ", "x := 1;", "END_CASE;", 60);
         nested("IF b THEN ELSE ", "x := x;", "END_IF;", 60);
         fine(Check.repeat("IF b THEN ELSIF NOT b THEN x := x + 1; ", 59) + Check.repeat("END_IF;", 59));
+        // What has ended is open no more.
+        fine(Check.repeat("IF b THEN END_IF;", 70) + Check.repeat("CASE x OF END_CASE;", 70)
+            + Check.repeat("FOR x := 1 TO 2 DO END_FOR;", 70) + Check.repeat("t();", 70) + Check.repeat("q[1] := 1;", 70));
         String ifs = Check.repeat("IF b THEN ", 60);
         String ends = Check.repeat("END_IF;", 60);
         body(7, ifs + "^FOR x := 1 TO 2 DO END_FOR;" + ends);
