@@ -6,6 +6,9 @@ final class Check {
 
     private static int asked = 0;
     private static int wrong = 0;
+    private static String sentence = "";
+    private static int askedBefore = 0;
+    private static int sentences = 0;
 
     private Check() {
     }
@@ -14,12 +17,30 @@ final class Check {
         asked++;
         if (got != due) {
             wrong++;
-            System.out.println(what + " answered " + got + ", due is " + due);
+            System.out.println(sentence + what + " answered " + got + ", due is " + due);
+        }
+    }
+
+    /** What is asked from here on is asked for this sentence of the document. */
+    static void sentence(String words) {
+        endSentence();
+        sentence = "[" + words + "] ";
+        askedBefore = asked;
+        sentences++;
+    }
+
+    /** A sentence that nothing was asked for has no test. */
+    private static void endSentence() {
+        if (sentences > 0 && asked == askedBefore) {
+            wrong++;
+            System.out.println(sentence + "has no test");
         }
     }
 
     static void finish(String name) {
-        System.out.println(name + ": " + (asked - wrong) + " answers as due, " + wrong + " not");
+        endSentence();
+        String told = sentences > 0 ? sentences + " sentences, " : "";
+        System.out.println(name + ": " + told + (asked - wrong) + " answers as due, " + wrong + " not");
         if (wrong != 0 || asked == 0) {
             System.exit(1);
         }
