@@ -59,6 +59,9 @@ final class Check {
     /** Puts the text behind what is there; the last twenty bytes come alone if padding would be too long. */
     static void write(TypeRules rules, String text) {
         byte[] bytes = text.getBytes(StandardCharsets.ISO_8859_1);
+        if (bytes.length > 8192) {
+            throw new IllegalArgumentException("the test's own text is too long: " + bytes.length);
+        }
         int whole = bytes.length / 20 * 20;
         for (int i = 0; i < whole; i += 20) {
             feed(rules, bytes, i);

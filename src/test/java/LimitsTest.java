@@ -12,6 +12,7 @@ public final class LimitsTest {
 
     public static void main(String[] args) {
         fullTexts();
+        mostNames();
         oneBehindTheOther();
         soup();
         Check.finish("LimitsTest");
@@ -40,6 +41,38 @@ public final class LimitsTest {
         Check.is("cell of the last of many names", rules.cell(3 + 1600), 960 + 1599);
         Check.refused(25, "PROGRAM p VAR x:INT;END_VAR x:=^ABS(" + Check.repeat("1,", 3900) + "1)"
             + Check.repeat("+1", 59) + ";END_PROGRAM");
+    }
+
+    /** As many different names as a text has room for: the shortest ones that are free. */
+    private static void mostNames() {
+        String first = "ABCDEFGHIJKLMNOPQRSTUVWXYZ_";
+        String next = first + "0123456789";
+        String taken = " P IF TO BY OF OR AT DO TP SR RS VAR INT AND XOR MOD NOT FOR TON TOF CTU CTD ABS MIN MAX SEL SHL SHR ";
+        StringBuilder names = new StringBuilder();
+        int count = 0;
+        int most = 8192 - "PROGRAM P VAR :INT;END_VAR END_PROGRAM".length();
+        int inner = next.length() + 1;
+        for (int length = 1; length <= 3; length++) {
+            int times = length == 1 ? 1 : length == 2 ? inner - 1 : (inner - 1) * (inner - 1);
+            for (int i = 0; i < first.length() * times && names.length() + length + 1 <= most; i++) {
+                String name = first.substring(i % first.length(), i % first.length() + 1);
+                int rest = i / first.length();
+                for (int k = 1; k < length; k++) {
+                    name += next.charAt(rest % next.length());
+                    rest /= next.length();
+                }
+                if (!taken.contains(" " + name + " ")) {
+                    names.append(count == 0 ? "" : ",").append(name);
+                    count++;
+                }
+            }
+        }
+        TypeRules rules = Check.right("PROGRAM P VAR " + names + ":INT;END_VAR END_PROGRAM");
+        Check.is("many names", count > 2250 ? 1 : 0, 1);
+        Check.is("nodes of the most names", rules.count(2), count + 6);
+        Check.is("cell of the last of the most names", rules.cell(3 + count), 960 + count - 1);
+        Check.is("frame of the most names", rules.frame(0), 960 + count);
+        Check.refused(6, "PROGRAM P VAR " + names + ":INT;END_VAR ^PROGRAM");
     }
 
     private static String answers(TypeRules rules) {

@@ -499,6 +499,10 @@ public final class RulesTest {
     private static void order() {
         // Children before their parents, otherwise the first node; of one node the rule that is told first.
         body(20, "x := b + ^z; w := 1;");
+        body(20, "^z := w;");
+        body(20, "x := ^w + z;");
+        body(20, "z[^w] := v;");
+        body(22, "^a[b] := z;");
         body(27, "x := b ^+ b + z;");
         body(31, "x ^:= b; z := 1;");
         body(22, "x := MIN(^a[b], z);");

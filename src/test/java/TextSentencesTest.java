@@ -69,13 +69,14 @@ public final class TextSentencesTest {
 
     private static void judgingUntilTheLastCall() {
         Check.sentence("at most 512 calls: the fullest text, judged by all that are left");
-        StringBuilder text = new StringBuilder("PROGRAM p VAR ").append(Check.names(0, 1630)).append(":INT;END_VAR");
+        StringBuilder text = new StringBuilder("PROGRAM p VAR ").append(Check.names(0, 1600)).append(":INT;END_VAR ");
+        text.append(Check.names(0, 1)).append(":=").append(Check.names(1599, 1)).append(";");
         text.append(Check.repeat(" ", 8192 - 11 - text.length())).append("END_PROGRAM");
         TypeRules rules = new TypeRules();
         Check.write(rules, text.toString());
         for (int call = 413; call <= 512; call += 2) {
             Check.is("call " + call, rules.judge(), 0);
-            Check.is("call " + (call + 1), rules.count(2), 6 + 1630);
+            Check.is("call " + (call + 1), rules.cell(1608), 960 + 1599);
         }
     }
 

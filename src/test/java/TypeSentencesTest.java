@@ -20,6 +20,7 @@ public final class TypeSentencesTest {
         indices();
         numberOfOperands();
         numberOfInputs();
+        inputsOfManyFunctions();
         standardTypes();
         ownTypes();
         typesOfTwo();
@@ -149,6 +150,27 @@ public final class TypeSentencesTest {
                 } else {
                     Check.refused(25, text);
                 }
+            }
+        }
+    }
+
+    private static void inputsOfManyFunctions() {
+        Check.sentence("34: 25, 26: a FUNCTION its inputs, of as many functions as a text has room for");
+        StringBuilder functions = new StringBuilder();
+        int count = 108;
+        for (int i = 0; i < count; i++) {
+            functions.append("FUNCTION ").append(Check.names(i, 1)).append(":INT VAR_INPUT a,b,c,d,e,f,g:INT;h:BOOL;END_VAR ")
+                .append("END_FUNCTION ");
+        }
+        String head = functions + "PROGRAM p VAR x:INT;END_VAR x:=^";
+        for (int i = 0; i < count; i++) {
+            String name = Check.names(i, 1);
+            Check.right((head + name + "(1,1,1,1,1,1,1,TRUE);END_PROGRAM").replace("^", ""));
+            if (i % 10 == 9) {
+                Check.refused(26, head + name + "(1,1,1,1,1,1,1,1);END_PROGRAM");
+                Check.refused(26, head + name + "(TRUE,1,1,1,1,1,1,TRUE);END_PROGRAM");
+                Check.refused(25, head + name + "(1,1,1,1,1,1,1);END_PROGRAM");
+                Check.refused(25, head + name + "(1,1,1,1,1,1,1,TRUE,1);END_PROGRAM");
             }
         }
     }
