@@ -11,12 +11,14 @@ public final class TextSentencesTest {
         manyTextsUntilTheLastCall();
         newObject();
         clearOfNothingAndOfAll();
+        clearLeavesNoBytes();
         clearLeavesWhatWasJudged();
         feedPutsTheHighestFirst();
         feedCountsTheBytes();
         feedRefusesMoreThanAll();
         refusedFeedChangesNothing();
         endKeepsTheFirst();
+        endLeavesNothingBehind();
         endTakesBytesOfManyCalls();
         endRefusesAnotherNumber();
         endRefusesTooFew();
@@ -227,6 +229,45 @@ public final class TextSentencesTest {
                 Check.is("feed behind end(" + n + ")", feedStray(rules, 0, '#'), 40 + n);
                 rules.judge();
                 Check.is("place of what comes behind", rules.count(1), at < n ? 20 + at : 20 + n);
+            }
+        }
+    }
+
+    /** The text's end may cut every token; what stood behind it is not read. */
+    private static void endLeavesNothingBehind() {
+        Check.sentence("Promise 4: the first n (0 .. 20) stay: the others are no part of the text");
+        for (String last : new String[] {"PROGRAM p END_PROGRAM", "PROGRAM p END_PROGRAM(**)(* *)", "PROGRAM p (*)*) *) END_",
+            "PROGRAM p x:=1..2<=3>=4<>5", "PROGRAM p x:=16#7FFFFFFFFFF", "PROGRAM p x:=T#2147483ms", "PROGRAM p x:=2#1012;",
+            "PROGRAM p VAR x AT %IX2555", "PROGRAM p VAR x AT %QW633:", "PROGRAM p x:=21474836470;",
+            "PROGRAM p " + Check.repeat("n", 34), "PROGRAM p RETURN;;END_PROGRAM"}) {
+            String text = Check.repeat(" ", 60 - last.length()) + last;
+            for (int n = 0; n <= 20; n++) {
+                TypeRules cut = new TypeRules();
+                Check.write(cut, text);
+                Check.is("end(" + n + ")", cut.end(n), 40 + n);
+                TypeRules fresh = Check.judged(text.substring(0, 40 + n));
+                Check.is("judge() of " + n + " of '" + last + "'", cut.judge(), fresh.count(0));
+                Check.is("count(1) of " + n + " of '" + last + "'", cut.count(1), fresh.count(1));
+            }
+        }
+    }
+
+    private static void clearLeavesNoBytes() {
+        Check.sentence("Promise 2: No text: bytes that were there are not read");
+        for (String old : new String[] {"*)", "n", "5", "ms", "=", ".", ">", "#1", " END_PROGRAM"}) {
+            for (String text : new String[] {"(*", "(* *", "PROGRAM", "PROGRAM p x:", "PROGRAM p x:=1", "PROGRAM p x:=T#1",
+                "PROGRAM p x:=1.", "PROGRAM p x:=1<", "PROGRAM p x:=16", "PROGRAM p VAR x AT %IX", "PROGRAM p"}) {
+                String whole = Check.repeat(" ", 40 - text.length()) + text;
+                for (int shift = 0; shift < old.length(); shift++) {
+                    // Forty bytes in two calls, so that right behind them stands what was there before.
+                    TypeRules rules = new TypeRules();
+                    Check.write(rules, Check.repeat(" ", 40) + old.substring(shift) + Check.repeat(old, 10));
+                    rules.clear();
+                    Check.write(rules, whole);
+                    TypeRules fresh = Check.judged(whole);
+                    Check.is("judge() of '" + text + "' where '" + old + "' was", rules.judge(), fresh.count(0));
+                    Check.is("count(1) of '" + text + "' where '" + old + "' was", rules.count(1), fresh.count(1));
+                }
             }
         }
     }
