@@ -394,7 +394,7 @@ public final class TypeRules {
         int numberOf(char[] source, int from, int to) {
             int bucket = bucketOf(source, from, to);
             int name = heads[bucket];
-            for (int left = count; left > 0 && name != NONE; left--) {
+            for (int left = count; left > 0 && name >= 0 && name < count; left--) {
                 if (isSame(name, source, from, to)) {
                     return name;
                 }
@@ -1279,7 +1279,8 @@ public final class TypeRules {
             int from = tree.size();
             readOperand();
             int sign = signHere();
-            for (int left = MOST_BYTES; left > 0 && sign != NONE && BINDING[sign] >= closeness; left--) {
+            for (int left = MOST_BYTES; left > 0 && sign >= 0 && sign < BINDING.length
+                    && BINDING[sign] >= closeness; left--) {
                 tree.wrap(from, Node.TWO, tokens.placeHere(), sign);
                 openHere();
                 readExpression(BINDING[sign] + 1);
@@ -1627,7 +1628,8 @@ public final class TypeRules {
         }
 
         int inputTypeOf(int block, int input) {
-            return block >= 0 && block < count && input >= 0 && input < MOST_INPUTS ? inputTypes[block * MOST_INPUTS + input] : NONE;
+            boolean known = block >= 0 && block < count && input >= 0 && input < MOST_INPUTS;
+            return known ? inputTypes[block * MOST_INPUTS + input] : NONE;
         }
 
         /** Gives the current block so many cells more, and answers the first of them. */
@@ -1756,7 +1758,7 @@ public final class TypeRules {
         /** The variable of this block with this name, or NONE. */
         int find(int owner, int name) {
             int variable = name >= 0 && name < newest.length ? newest[name] : NONE;
-            for (int left = count; left > 0 && variable != NONE; left--) {
+            for (int left = count; left > 0 && variable >= 0 && variable < count; left--) {
                 if (owners[variable] == owner) {
                     return variable;
                 }
