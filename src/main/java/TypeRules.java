@@ -873,7 +873,8 @@ public final class TypeRules {
 
         /** The first node behind this one and all below it; of no node, behind all. */
         int behind(int node) {
-            return node >= 0 && node < count ? node + sizes[node] : count;
+            // Always further on, so a loop from child to child comes to its end.
+            return node >= 0 && node < count ? node + Math.max(sizes[node], 1) : count;
         }
 
         void setPlace(int node, int place) {
@@ -2254,7 +2255,10 @@ public final class TypeRules {
         }
 
         private static int wider(int a, int b) {
-            return a >= INT && b >= INT ? Math.max(a, b) : NONE;
+            if (a < INT || b < INT) {
+                return NONE;
+            }
+            return a >= b ? a : b;
         }
 
         /** BOOL of two BOOLs, the wider of two numbers, NONE of others. */
